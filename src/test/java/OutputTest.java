@@ -56,6 +56,12 @@ public final class OutputTest {
         road.removeLoad(0);
         road.removeLoad(0);
         printed(road, "-", road.printLoads());
+        int[] counts = {0, 1, 9, 10, 99, 100, 999, 1000, 9999, 10000, 99999, 100000, 100001, 700001, 999999, 123456};
+        RoadWear one = Check.road("road 1 1;load 0 0 0 1 0;");
+        for (int count : counts) {
+            one.setCount(0, count);
+            printed(one, "0:0-0x1*" + count, one.printLoads());
+        }
         RoadWear full = Check.road("road 16 1;");
         StringBuilder text = new StringBuilder();
         for (int load = 0; load < 10; load++) {

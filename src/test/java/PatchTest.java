@@ -104,6 +104,16 @@ public final class PatchTest {
         // strength 54: 29160 of capacity, and no rut from units below 292
         Check.due("a strong overlay", road.yearsBehind(RoadWear.OVERLAY, 0, 100), RoadWear.NONE);
         Check.due("nothing changes", road.yearsLeft(0), 1);
+        // ruts of 10, 20 and 30; one more tenth of strength would be 11
+        RoadWear bare = Check.road("road 1 1;design asphalt 20 sand 22;load 0 0 0 10 100;limit 21;rut 0 0 5;");
+        Check.due("a fill leaves a rut of 0", bare.yearsBehind(RoadWear.FILL, 0, 50), 3);
+        Check.due("a rebuild leaves a rut of 0", bare.yearsBehind(RoadWear.REBUILD, 0, 50), 3);
+        RoadWear worn = Check.road("road 1 1;design asphalt 20 sand 22;load 0 0 0 10 100;soft 1;life 1;");
+        worn.pass(1);
+        Check.due("a rebuild leaves nothing worn", worn.yearsBehind(RoadWear.REBUILD, 0, 0), 1);
+        Check.due("a fill does", worn.yearsBehind(RoadWear.FILL, 0, 0), 0);
+        worn.setCount(0, 99);
+        Check.due("a rebuild leaves nothing worn", worn.yearsBehind(RoadWear.REBUILD, 0, 0), 2);
         RoadWear thick = Check.road("road 1 1;design sand 13;load 0 0 0 10 4000;life 1;soft 1;");
         thick.patch(RoadWear.OVERLAY, 0, 100);
         thick.patch(RoadWear.OVERLAY, 0, 100);
@@ -161,6 +171,18 @@ public final class PatchTest {
         Check.due("it fails in a year", full.yearsLeft(0), 1);
         Check.due("an overlay beyond 300 mm is refused", full.cheapest(0, 1), RoadWear.NONE);
         Check.due("though it would help", full.yearsBehind(RoadWear.OVERLAY, 0, 100) > 1, true);
+        // 2025 with 100 mm, 2401 with 110
+        RoadWear thin = Check.road("road 1 1;design sand 13;load 0 0 0 10 2100;life 1;soft 1;");
+        Check.due("100 mm don't do", thin.yearsBehind(RoadWear.OVERLAY, 0, 100), 1);
+        Check.due("no more than 100 mm", thin.cheapest(0, 1), RoadWear.NONE);
+        thin.setCount(0, 2000);
+        Check.due("100 mm do", thin.cheapest(0, 1), 2100);
+        thin.setCount(0, 1500);
+        // (104 + 80 * 44) / 100 = 36: 1296; with 90 mm 40: 1600
+        Check.due("90 mm do", thin.cheapest(0, 1), 2090);
+        Check.promise(38);
+        Check.due("planCost of 90 mm", thin.planCost(1), 45);
+        Check.promise(37);
         RoadWear made = Check.road("road 1 1;design asphalt 20 sand 15;load 0 0 0 10 100;life 1;over 999;build 1;");
         made.patch(RoadWear.REBUILD, 0, 0);
         made.set(2, 10);

@@ -85,6 +85,12 @@ public final class RoadTest {
         Check.throwing("cell 8", Check.INDEX, () -> road.cell(8, 0));
         Check.throwing("what -1", Check.ARGUMENT, () -> road.cell(0, -1));
         Check.throwing("what 9", Check.ARGUMENT, () -> road.cell(7, 9));
+        RoadWear narrow = Check.road("road 1 4;core 0 3 sand 1;");
+        for (int lane = 0; lane < 4; lane++) {
+            Check.due("one station", narrow.cell(lane, 0), 0);
+            Check.due("its lane", narrow.cell(lane, 1), lane);
+            Check.due("its distance", narrow.cell(lane, 8), 9 - 3 * lane);
+        }
         RoadWear weak = Check.road("road 1 1;core 0 0 sand 12;");
         Check.due("strength is at least 1", weak.cell(0, 5), 1);
         RoadWear strong = Check.road("road 1 1;design asphalt 500 asphalt 500 asphalt 500 asphalt 500;money 9999;");
@@ -208,6 +214,7 @@ public final class RoadTest {
         road.addLayer(0, 0, 10);
         road.patch(RoadWear.REBUILD, 1, 0);
         Check.due("the rebuilt ones", road.weakest(), 1);
+        Check.due("the first one", Check.road("road 2 2;core 0 0 sand 13;core 1 0 sand 99;").weakest(), 0);
         Check.throwing("no cells", java.util.NoSuchElementException.class, () -> new RoadWear().weakest());
     }
 
@@ -237,6 +244,7 @@ public final class RoadTest {
         Check.due("not a rebuilt one", road.nextCore(), 4);
         road.drill(4, 0, 1);
         Check.due("2 far", road.nextCore(), 2);
+        Check.due("1 far", Check.road("road 2 1;core 0 0 sand 1;").nextCore(), 1);
         RoadWear bare = Check.road("road 2 1;money 9999;");
         Check.due("without cores", bare.nextCore(), 0);
         bare.patch(RoadWear.REBUILD, 0, 0);
@@ -256,6 +264,7 @@ public final class RoadTest {
                 + "load 1 0 2 10 1000;");
         Check.due("meanRut(0)", road.meanRut(0), 4.0 / 3.0);
         Check.due("meanRut(1)", road.meanRut(1), 29996.0 / 3.0);
+        Check.due("one station", Check.road("road 1 2;rut 0 1 7;").meanRut(1), 7.0);
         Check.throwing("lane 2", Check.INDEX, () -> road.meanRut(2));
         Check.throwing("lane -1", Check.INDEX, () -> road.meanRut(-1));
         Check.promise(40);

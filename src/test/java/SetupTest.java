@@ -6,6 +6,7 @@ public final class SetupTest {
         truncateInput();
         loadRoad();
         loadReplacesAll();
+        nothingStaysInTheBuffer();
         errorsChangeNothing();
         syntax();
         outOfRange();
@@ -163,6 +164,38 @@ public final class SetupTest {
         Check.due("the output stays", Check.output(road), "0:0-1x10*100");
     }
 
+    private static void nothingStaysInTheBuffer() {
+        Check.promise(4);
+        RoadWear road = new RoadWear();
+        Check.append(road, "road 1 1;soft 5000;limit 77777;");
+        road.truncateInput(15);
+        Check.due("cut within a number", road.loadRoad(), -1);
+        Check.due("SYNTAX at the end of the text", road.errorCode(), RoadWear.SYNTAX);
+        Check.due("offset", road.errorOffset(), 15);
+        Check.append(road, "road 1 1;soften");
+        road.truncateInput(13);
+        Check.due("cut within a word", road.loadRoad(), -1);
+        Check.due("offset", road.errorOffset(), 13);
+        StringBuilder text = new StringBuilder("road 1 1;");
+        while (text.length() < 693) {
+            text.append("rut 0 0 0;");
+        }
+        text.setLength(693);
+        String start = text.substring(0, 689);
+        for (String end : new String[] {"rut 0 0 9;;", "rut 0 0 98", "          0", "road road", "      rut 0"}) {
+            String full = (start + end + "           ").substring(0, 700 - end.length()) + end;
+            Check.due("700 bytes", Check.load(road, full), -1);
+        }
+        Check.due("700 good bytes", Check.load(road, start + "rut 0 0 98;"), 1);
+        Check.due("rut", road.cell(0, 2), 98);
+        Check.due("the DESIGN may be told again", Check.load(road, "road 1 1;design sand 1;soft 1;"), 1);
+        Check.due("the DESIGN may be told again", Check.load(road, "road 1 1;design sand 2;soft 2;"), 1);
+        Check.due("without it", Check.load(road, "road 1 1;"), 1);
+        Check.due("without it", road.cell(0, 5), 72);
+        Check.due("a rut of 0", Check.load(road, "road 1 1;rut 0 0 5;rut 0 0 0;"), 1);
+        Check.due("a rut of 0", road.cell(0, 2), 0);
+    }
+
     private static void errorsChangeNothing() {
         Check.promise(4);
         RoadWear road = Check.road("road 2 2;rut 1 1 33;load 0 0 1 10 100;core 1 0 sand 7;");
@@ -246,6 +279,17 @@ public final class SetupTest {
         error("road 1 1;load 0 0 0 1 1 grow 1;", code, 24);
         error("road 1 1;load 0 0 0 1 1 grows 1 grows 1;", code, 32);
         error("road 1 1;load 0 0 0 1 1000000;", code, 22);
+        error("road 1 1;load 0 0 0 1 soft 5;", code, 22);
+        error("road 1 1;load 0 0 0 soft 5;", code, 20);
+        error("road 1 1;load 0 0 soft 5;", code, 18);
+        error("road 1 1;load 0 soft 5;", code, 16);
+        error("road 1 1;load soft 5;", code, 14);
+        error("road 1 1;softz 5;", code, 9);
+        error("road 1 1;softa 5;", code, 9);
+        error("road 1 1;`", code, 9);
+        error("road 1 1;{", code, 9);
+        error("road 1 1;limit 11/0;", code, 17);
+        error("road 1 1;limit 11:0;", code, 17);
         error("road 1 1;rut 0 0;", code, 16);
         error("road 1 1;rut 0 0 5", code, 18);
     }

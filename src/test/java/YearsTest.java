@@ -15,6 +15,9 @@ public final class YearsTest {
         yearsLeft();
         nthCell();
         lanes();
+        exactly();
+        growing();
+        removedLoads();
         failing();
         forecasts();
         countIn();
@@ -178,6 +181,116 @@ public final class YearsTest {
         Check.due("now", road.laneYears(1), 0);
     }
 
+    /**
+     * A cell of strength 100 with a capacity of 10000 under 199 units a year and no rut: 51 years, but 50 with 1
+     * percent more or any unit more. Other forecasts are asked between, and must leave nothing behind.
+     */
+    private static final String EXACT = "road 2 2;design asphalt 200 sand 150;load 0 0 0 10 199;soft 1;life 1;"
+            + "over 1;build 99;money 0;";
+
+    private static void exactly() {
+        RoadWear road = Check.road(EXACT);
+        road.yearsWith(0, 900);
+        Check.promise(20);
+        Check.due("yearsLeft", road.yearsLeft(0), 51);
+        road.yearsIfClosed(1, 0);
+        Check.due("yearsLeft", road.yearsLeft(0), 51);
+        Check.promise(21);
+        RoadWear two = Check.road(EXACT + "load 1 1 1 10 200;");
+        two.yearsWith(0, 900);
+        Check.due("50 years are ahead of 51", two.nthCell(0), 3);
+        Check.due("50 years are ahead of 51", two.nthCell(1), 0);
+        Check.promise(22);
+        road.yearsWith(0, 900);
+        Check.due("laneYears by the station 0", road.laneYears(0), 51);
+        Check.promise(23);
+        two.addLoad(0, 1, 1, 10, 200, 0);
+        two.yearsWith(0, 900);
+        Check.due("firstFailing", two.firstFailing(0), 1);
+        road.yearsIfClosed(1, 0);
+        Check.due("firstFailing is the station 0", road.firstFailing(0), 0);
+        Check.promise(24);
+        road.yearsWith(0, 900);
+        Check.due("failing", road.failing(50), 0);
+        Check.due("failing", road.failing(51), 1);
+        Check.promise(25);
+        road.yearsIfClosed(1, 0);
+        Check.due("rutIn", Check.road(EXACT + "limit 999;rut 0 0 500;").rutIn(0, 60), 500);
+        road.set(0, 51);
+        road.yearsWith(0, 900);
+        Check.due("rutIn: 199 * 51 / 10000 is 1", road.rutIn(0, 1), 1);
+        road.undo();
+        Check.promise(26);
+        road.yearsWith(0, 900);
+        Check.due("wornIn", road.wornIn(0, 60), 11940L);
+        Check.promise(28);
+        Check.due("yearsWith 0", road.yearsWith(0, 0), 51);
+        Check.due("yearsWith 1", road.yearsWith(0, 1), 50);
+        Check.promise(29);
+        road.yearsWith(0, 900);
+        Check.due("yearsIfClosed", road.yearsIfClosed(0, 1), 51);
+        Check.due("yearsIfClosed", road.yearsIfClosed(1, 0), 51);
+        Check.promise(36);
+        road.yearsWith(0, 900);
+        Check.due("yearsBehind", road.yearsBehind(RoadWear.FILL, 0, 0), 51);
+        Check.promise(37);
+        road.yearsWith(0, 900);
+        Check.due("cheapest", road.cheapest(0, 50), 0);
+        Check.promise(38);
+        road.yearsWith(0, 900);
+        Check.due("planCost", road.planCost(50), 0);
+        Check.promise(55);
+        road.yearsWith(0, 900);
+        road.printLane(0);
+        Check.due("printLane", Check.output(road), "51 #");
+        Check.promise(41);
+        road.yearsWith(0, 900);
+        road.pass(60);
+        Check.due("pass", road.worn(0), 11940L);
+    }
+
+    /** 100, 120, 144 and 172 units, of which the ruts make no more. */
+    private static void growing() {
+        RoadWear road = Check.road("road 1 1;design asphalt 200 sand 150;load 0 0 0 10 100 grows 20;soft 1;life 1;");
+        Check.promise(26);
+        Check.due("wornIn 4", road.wornIn(0, 4), 536L);
+        Check.promise(25);
+        road.set(0, 100);
+        Check.due("rutIn 4: 1 a year", road.rutIn(0, 4), 4);
+        road.set(0, 999);
+        // 9, then 120 * 1009 / 1000 = 121: 12, then 144 * 1021 / 1000 = 147: 14
+        Check.due("rutIn 3: 9, 12 and 14", road.rutIn(0, 3), 35);
+        Check.promise(20);
+        road.set(0, 1);
+        // 100 + 120 + 144 + 172 + 206 + 247 + 296 + 355 + 426 + 511 + 613 + 735 + 882 + 1058 + 1269 is 7134, 1522 more
+        // 8656, 1826 more 10482
+        Check.due("yearsLeft", road.yearsLeft(0), 17);
+        Check.promise(28);
+        // all 80 percent more: 180, 216, 259, 310, 372, 446, 535, 642, 770, 924, 1108, 1329, 1594 are 8685, 1912 more
+        Check.due("yearsWith grows from there", road.yearsWith(0, 80), 14);
+    }
+
+    /** What a removed load leaves in its row must not count. */
+    private static void removedLoads() {
+        RoadWear road = Check.road("road 2 1;load 0 0 1 10 1;load 0 0 1 20 900;life 1;");
+        Check.promise(17);
+        Check.due("heaviest", road.heaviest(0), 1);
+        road.removeLoad(1);
+        Check.due("heaviest", road.heaviest(0), 0);
+        road.setCount(0, 0);
+        Check.due("heaviest", road.heaviest(0), RoadWear.NONE);
+        road.setCount(0, 1);
+        Check.promise(15);
+        Check.due("base", road.base(1), 1L);
+        Check.promise(20);
+        Check.due("yearsLeft", road.yearsLeft(0), RoadWear.NONE);
+        Check.promise(26);
+        Check.due("wornIn", road.wornIn(0, 60), 60L);
+        Check.promise(41);
+        road.pass(1);
+        Check.due("worn", road.worn(0), 1L);
+    }
+
     private static void failing() {
         Check.promise(24);
         RoadWear road = Check.road(TEXT + "rut 0 1 150;");
@@ -299,6 +412,13 @@ public final class YearsTest {
         Check.due("the last one: none fails then", road.safestClosing(), 1);
         road.close(1, true);
         Check.due("no lane is open", road.safestClosing(), RoadWear.NONE);
+        // with the weak lane 1 under both loads it fails sooner than the strong lane 0
+        RoadWear strong = Check.road("road 1 2;core 0 0 asphalt 200;core 0 1 asphalt 50;load 0 0 0 10 100;"
+                + "load 1 0 0 10 100;");
+        Check.due("the last lane counts", strong.safestClosing(), 1);
+        RoadWear first = Check.road("road 2 2;core 0 0 asphalt 50;core 0 1 asphalt 200;load 0 0 0 10 100;"
+                + "load 1 0 0 10 100;");
+        Check.due("the first station counts", first.safestClosing(), 0);
         RoadWear failing = Check.road("road 1 2;rut 0 0 999;");
         Check.due("a cell fails whatever is closed", failing.safestClosing(), 0);
     }
