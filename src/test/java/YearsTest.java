@@ -419,6 +419,11 @@ public final class YearsTest {
         RoadWear first = Check.road("road 2 2;core 0 0 asphalt 50;core 0 1 asphalt 200;load 0 0 0 10 100;"
                 + "load 1 0 0 10 100;");
         Check.due("the first station counts", first.safestClosing(), 0);
+        // 199 units a year: 51 years of lane 0 (10000), 50 of lane 1 (9801); with 200 both would be 50
+        RoadWear exact = Check.road("road 1 2;core 0 0 asphalt 200 sand 150;core 0 1 asphalt 200 sand 140;soft 1;"
+                + "life 1;load 0 0 0 10 199;");
+        exact.yearsWith(0, 900);
+        Check.due("a year more", exact.safestClosing(), 1);
         RoadWear failing = Check.road("road 1 2;rut 0 0 999;");
         Check.due("a cell fails whatever is closed", failing.safestClosing(), 0);
     }
