@@ -13,6 +13,8 @@ public final class ModelTest {
 
     private static long seed = 1;
     private static int wrong = 0;
+    /** Calls of the object in use: the document promises 512. */
+    private static int calls = 0;
 
     private static int below(int bound) {
         seed = seed * 6364136223846793005L + 1442695040888963407L;
@@ -36,12 +38,13 @@ public final class ModelTest {
             }
         }
         face.sort(Comparator.comparing(Method::getName));
-        int runs = args.length > 0 ? Integer.parseInt(args[0]) : 150;
+        int runs = args.length > 0 ? Integer.parseInt(args[0]) : 250;
         for (int run = 0; run < runs && wrong == 0; run++) {
             seed = run;
             play(run, face);
         }
         texts(args.length > 0 ? 50000 : 5000);
+        edges(face);
         System.out.println("ModelTest: " + wrong + " wrong");
         if (wrong != 0) {
             System.exit(1);
@@ -55,6 +58,7 @@ public final class ModelTest {
             seed = 1000000 + text;
             RoadWear road = new RoadWear();
             Model model = new Model();
+            calls = 0;
             boolean small = chance(50);
             String setup = spoiled(setup(small));
             List<String> told = new ArrayList<>();
@@ -67,7 +71,8 @@ public final class ModelTest {
             for (int what = 0; what < 14; what++) {
                 compare(text, told, RoadWear.class.getMethod("count", int.class), road, model, what);
             }
-            for (int cell = 0; cell < road.count(2); cell++) {
+            for (int turn = 0; turn < Math.min(12, model.count(2)); turn++) {
+                int cell = model.count(2) < 13 ? turn : below(model.count(2));
                 compare(text, told, RoadWear.class.getMethod("printCell", int.class), road, model, cell);
                 for (int index = 0; index < 30; index++) {
                     compare(text, told, RoadWear.class.getMethod("outputByte", int.class), road, model, index);
@@ -76,9 +81,113 @@ public final class ModelTest {
         }
     }
 
+    private static final int[] MANY_EDGES = {Integer.MIN_VALUE, -2, -1, 0, 1, 2, 3, 4, 5, 6, 7, 8, 9, 10, 11, 12, 13, 14, 15,
+        16, 20, 21, 30, 31, 59, 60, 61, 63, 64, 99, 100, 101, 149, 150, 300, 301, 499, 500, 501, 680, 700, 701, 900, 901, 999,
+        1000, 9998, 9999, 10000, 999998, 999999, 1000000, Integer.MAX_VALUE - 1, Integer.MAX_VALUE};
+    private static final int[] SOME_EDGES = {Integer.MIN_VALUE, -1, 0, 1, 2, 3, 4, 9, 10, 12, 16, 60, 61, 64, 100, 101, 500,
+        501, 900, 901, 999, 1000, 9999, 10000, 999999, 1000000, Integer.MAX_VALUE};
+    private static final int[] FEW_EDGES = {Integer.MIN_VALUE, -1, 0, 1, 2, 3, 4, 9, 10, 64, 100, 101, 500, 501,
+        Integer.MAX_VALUE};
+
+    /** A road and its model, to be made anew behind a change, so that each call finds the same state. */
+    private static final class Pair {
+        final RoadWear road = new RoadWear();
+        final Model model = new Model();
+        final List<String> told = new ArrayList<>();
+
+        Pair(String text, int years) {
+            if (!text.isEmpty()) {
+                told.add(text);
+                append(road, model, text);
+                due(road.loadRoad(), model.loadRoad());
+            }
+            for (int year = 0; year < years; year += 50) {
+                told.add("pass(50)");
+                due(road.pass(50), model.pass(50));
+            }
+            // so that a change is seen by the number of those that can be undone
+            told.add("saveState, restoreState");
+            due(road.saveState(), model.saveState());
+            due(road.restoreState(), model.restoreState());
+        }
+    }
+
+    /** Each method with numbers at all edges, in all combinations, on roads from none to the greatest one. */
+    private static void edges(List<Method> face) throws Exception {
+        StringBuilder full = new StringBuilder("road 16 4;design sand 1 sand 2 sand 3 gravel 4;");
+        for (int core = 0; core < 12; core++) {
+            full.append("core ").append(core).append(" 3 sand 1").append(core == 0 ? " sand 2 sand 3 sand 4;" : ";");
+        }
+        for (int load = 0; load < 10; load++) {
+            full.append("load 3 0 15 9 ").append(load).append("99;");
+        }
+        String some = "road 2 2;core 0 0 sand 100;core 1 1 asphalt 50 gravel 60;design asphalt 20 sand 15;"
+                + "load 0 0 1 10 100 grows 5;load 1 1 1 20 90;rut 1 0 40;life 9;money 500;";
+        for (Method method : face) {
+            edges(method, "", 0);
+            edges(method, "road 1 1;", 0);
+            edges(method, some, 0);
+            edges(method, some, 500);
+            edges(method, full.toString(), 0);
+        }
+    }
+
+    private static void edges(Method method, String text, int years) throws Exception {
+        int parameters = method.getParameterCount();
+        if (parameters > 3) {
+            edgesByTwo(method, text, years);
+            return;
+        }
+        int[] values = parameters < 2 ? MANY_EDGES : parameters == 2 ? SOME_EDGES : FEW_EDGES;
+        int combinations = 1;
+        for (int parameter = 0; parameter < parameters; parameter++) {
+            combinations *= values.length;
+        }
+        Pair pair = new Pair(text, years);
+        for (int combination = 0; combination < combinations && wrong == 0; combination++) {
+            Object[] arguments = new Object[parameters];
+            int rest = combination;
+            for (int parameter = 0; parameter < parameters; parameter++) {
+                arguments[parameter] = argument(method, parameter, values[rest % values.length]);
+                rest /= values.length;
+            }
+            pair = compareAlone(pair, method, text, years, arguments);
+        }
+    }
+
+    /** With more parameters: all combinations of any two of them. */
+    private static void edgesByTwo(Method method, String text, int years) throws Exception {
+        int parameters = method.getParameterCount();
+        Pair pair = new Pair(text, years);
+        for (int one = 0; one < parameters; one++) {
+            for (int other = one + 1; other < parameters; other++) {
+                for (int index = 0; index < SOME_EDGES.length * SOME_EDGES.length && wrong == 0; index++) {
+                    Object[] arguments = new Object[parameters];
+                    Arrays.fill(arguments, 1);
+                    arguments[one] = SOME_EDGES[index % SOME_EDGES.length];
+                    arguments[other] = SOME_EDGES[index / SOME_EDGES.length];
+                    pair = compareAlone(pair, method, text, years, arguments);
+                }
+            }
+        }
+    }
+
+    private static Object argument(Method method, int parameter, int value) {
+        return method.getParameterTypes()[parameter] == boolean.class ? (Object) (value % 2 == 0) : (Object) value;
+    }
+
+    private static Pair compareAlone(Pair pair, Method method, String text, int years, Object[] arguments) throws Exception {
+        int changes = pair.model.count(13);
+        compare(-1, pair.told, method, pair.road, pair.model, arguments);
+        compare(-1, pair.told, RoadWear.class.getMethod("count", int.class), pair.road, pair.model, 13);
+        boolean touched = pair.model.count(13) != changes || method.getName().endsWith("Input");
+        return touched || pair.told.size() > 400 ? new Pair(text, years) : pair;
+    }
+
     private static void play(int run, List<Method> face) throws Exception {
         RoadWear road = new RoadWear();
         Model model = new Model();
+        calls = 0;
         List<String> told = new ArrayList<>();
         boolean small = chance(70);
         Method load = RoadWear.class.getMethod("loadRoad");
@@ -88,7 +197,7 @@ public final class ModelTest {
             append(road, model, text);
             compare(run, told, load, road, model);
         }
-        for (int call = 0; call < 470 && wrong == 0; call++) {
+        while (calls < 460 && wrong == 0) {
             Method method = face.get(below(face.size()));
             String name = method.getName();
             boolean rare = name.equals("discard") || name.equals("removeLoad") || name.equals("restoreState")
@@ -108,7 +217,7 @@ public final class ModelTest {
                 }
                 continue;
             }
-            compare(run, told, method, road, model, arguments(method, road));
+            compare(run, told, method, road, model, arguments(method, model));
             if (name.startsWith("print")) {
                 for (int index = -1; index < 3; index++) {
                     compare(run, told, RoadWear.class.getMethod("outputByte", int.class), road, model, below(220) - 1);
@@ -122,6 +231,7 @@ public final class ModelTest {
                 (text.length() + 19) / 20 * 20);
         road.truncateInput(0);
         model.truncateInput(0);
+        calls += 2 + bytes.length / 20;
         for (int at = 0; at < bytes.length; at += 20) {
             int[] fours = new int[5];
             for (int index = 0; index < 20; index++) {
@@ -160,12 +270,12 @@ public final class ModelTest {
         return between(least, greatest);
     }
 
-    private static Object[] arguments(Method method, RoadWear road) {
-        int lanes = road.count(1);
-        int stations = road.count(0);
-        int cells = road.count(2);
-        int cores = road.count(3);
-        int loads = road.count(4);
+    private static Object[] arguments(Method method, Model model) {
+        int lanes = model.count(1);
+        int stations = model.count(0);
+        int cells = model.count(2);
+        int cores = model.count(3);
+        int loads = model.count(4);
         int years = chance(70) ? value(1, 8) : value(1, 60);
         int patch = value(1, 3);
         int mm = chance(10) ? value(-5, 105) : value(10, 100);
@@ -222,6 +332,7 @@ public final class ModelTest {
             Object... arguments) throws Exception {
         Method other = Model.class.getMethod(method.getName(), method.getParameterTypes());
         other.setAccessible(true);
+        calls++;
         String got = answer(method, road, arguments);
         String want = answer(other, model, arguments);
         told.add(method.getName() + Arrays.toString(arguments) + " = " + want);
