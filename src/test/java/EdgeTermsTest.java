@@ -33,6 +33,7 @@ public final class EdgeTermsTest {
         tooMany();
         errorsAndLoads();
         changes();
+        allCalls();
         Check.finish("EdgeTermsTest");
     }
 
@@ -804,5 +805,23 @@ public final class EdgeTermsTest {
         Check.due("money", undone.count(6), 6);
         Check.due("undo", undone.undo(), 5);
         Check.due("money", undone.count(6), 5);
+    }
+
+    private static void allCalls() {
+        is("An object is used for at most 512 calls after it has been made");
+        RoadWear road = new RoadWear();
+        for (int call = 1; call <= 502; call++) {
+            road.give(1);
+        }
+        for (int left = 7; left >= 0; left--) {
+            Check.due("undo", road.undo(), left);
+        }
+        Check.due("money", road.count(6), 1494);
+        Check.throwing("the 512th call", Check.STATE, road::undo);
+        RoadWear texts = new RoadWear();
+        for (int time = 0; time < 170; time++) {
+            Check.due("loadRoad", Check.load(texts, time % 2 == 0 ? "road 2 2;rut 1 1 7;" : "road 1 1;"), time % 2 == 0 ? 4 : 1);
+        }
+        Check.due("the last text", texts.count(2), 1);
     }
 }

@@ -8,11 +8,17 @@ public final class RefusedTest {
         Object answer(RoadWear road);
     }
 
+    private interface Indexed {
+        Object answer(RoadWear road, int number);
+    }
+
     public static void main(String[] args) {
         questions();
         onlyWhatTheySay();
-        indexes();
-        arguments();
+        indexesOfQuestions();
+        indexesOfChanges();
+        argumentsOfQuestions();
+        argumentsOfChanges();
         states();
         order();
         orderAtLimits();
@@ -114,139 +120,166 @@ public final class RefusedTest {
         return States.error(road) + States.told(road);
     }
 
-    /** Each method with an index that there is not, on either side. */
-    private static void indexes() {
-        Check.sentence(0, "A method that throws changes nothing");
-        for (int bad : new int[] {-1, 4, Integer.MAX_VALUE, Integer.MIN_VALUE}) {
-            refused("cell", Check.INDEX, r -> r.cell(bad, 0));
-            refused("worn", Check.INDEX, r -> r.worn(bad));
-            refused("capacity", Check.INDEX, r -> r.capacity(bad));
-            refused("layer of a cell", Check.INDEX, r -> r.layer(bad, 0, 0));
-            refused("layer", Check.INDEX, r -> r.layer(0, bad, 0));
-            refused("core", Check.INDEX, r -> r.core(bad, 0));
-            refused("load", Check.INDEX, r -> r.load(bad, 0));
-            refused("base", Check.INDEX, r -> r.base(bad));
-            refused("baseOf", Check.INDEX, r -> r.baseOf(bad, 0));
-            refused("baseOf", Check.INDEX, r -> r.baseOf(0, bad));
-            refused("heaviest", Check.INDEX, r -> r.heaviest(bad));
-            refused("units", Check.INDEX, r -> r.units(bad));
-            refused("failsBy", Check.INDEX, r -> r.failsBy(bad));
-            refused("yearsLeft", Check.INDEX, r -> r.yearsLeft(bad));
-            refused("nthCell", Check.INDEX, r -> r.nthCell(bad));
-            refused("laneYears", Check.INDEX, r -> r.laneYears(bad));
-            refused("firstFailing", Check.INDEX, r -> r.firstFailing(bad));
-            refused("rutIn", Check.INDEX, r -> r.rutIn(bad, 1));
-            refused("wornIn", Check.INDEX, r -> r.wornIn(bad, 1));
-            refused("countIn", Check.INDEX, r -> r.countIn(bad, 1));
-            refused("yearsWith", Check.INDEX, r -> r.yearsWith(bad, 0));
-            refused("yearsIfClosed", Check.INDEX, r -> r.yearsIfClosed(bad, 0));
-            refused("yearsIfClosed", Check.INDEX, r -> r.yearsIfClosed(0, bad));
-            refused("discardTells", Check.INDEX, r -> r.discardTells(bad));
-            refused("cost", Check.INDEX, r -> r.cost(1, bad, 0));
-            refused("whyNot", Check.INDEX, r -> r.whyNot(1, bad, 0));
-            refused("yearsBehind", Check.INDEX, r -> r.yearsBehind(1, bad, 0));
-            refused("cheapest", Check.INDEX, r -> r.cheapest(bad, 1));
-            refused("meanRut", Check.INDEX, r -> r.meanRut(bad));
-            refused("wornShare", Check.INDEX, r -> r.wornShare(bad));
-            refused("drill", Check.INDEX, r -> r.drill(bad, 0, 1));
-            refused("addLayer", Check.INDEX, r -> r.addLayer(bad, 0, 1));
-            refused("discard", Check.INDEX, r -> r.discard(bad));
-            refused("measure", Check.INDEX, r -> r.measure(bad, 0));
-            refused("addLoad on a lane", Check.INDEX, r -> r.addLoad(bad, 0, 0, 1, 0, 0));
-            refused("addLoad from a station", Check.INDEX, r -> r.addLoad(0, bad, 1, 1, 0, 0));
-            refused("addLoad to a station", Check.INDEX, r -> r.addLoad(0, 0, bad, 1, 0, 0));
-            refused("removeLoad", Check.INDEX, r -> r.removeLoad(bad));
-            refused("setCount", Check.INDEX, r -> r.setCount(bad, 0));
-            refused("close", Check.INDEX, r -> r.close(bad, true));
-            refused("patch", Check.INDEX, r -> r.patch(1, bad, 0));
-            refused("printCell", Check.INDEX, r -> r.printCell(bad));
-            refused("printLane", Check.INDEX, r -> r.printLane(bad));
+    /** Each index on either side of what there is, and the first and the last one. */
+    private static void noSuch(int promise, String thing, int size, Indexed use) {
+        Check.sentence(promise, "Throws `IndexOutOfBoundsException` if there is no such " + thing);
+        for (int bad : new int[] {-1, size, Integer.MAX_VALUE, Integer.MIN_VALUE}) {
+            refused("index " + bad, Check.INDEX, r -> use.answer(r, bad));
         }
-        // one behind the last, of those of which there are less than four
-        refused("core 3", Check.INDEX, r -> r.core(3, 0));
-        refused("load 2", Check.INDEX, r -> r.load(2, 0));
-        refused("layer 2 of 2", Check.INDEX, r -> r.layer(3, 2, 0));
-        refused("lane 2", Check.INDEX, r -> r.laneYears(2));
-        refused("baseOf load 2", Check.INDEX, r -> r.baseOf(2, 0));
-        refused("firstFailing of lane 2", Check.INDEX, r -> r.firstFailing(2));
-        refused("countIn of load 2", Check.INDEX, r -> r.countIn(2, 1));
-        refused("yearsIfClosed of lane 2", Check.INDEX, r -> r.yearsIfClosed(2, 0));
-        refused("yearsIfClosed with lane 2", Check.INDEX, r -> r.yearsIfClosed(0, 2));
-        refused("discardTells of core 3", Check.INDEX, r -> r.discardTells(3));
-        refused("meanRut of lane 2", Check.INDEX, r -> r.meanRut(2));
-        refused("addLayer to core 3", Check.INDEX, r -> r.addLayer(3, 0, 1));
-        refused("discard of core 3", Check.INDEX, r -> r.discard(3));
-        refused("addLoad on lane 2", Check.INDEX, r -> r.addLoad(2, 0, 0, 1, 0, 0));
-        refused("addLoad from station 2", Check.INDEX, r -> r.addLoad(0, 2, 2, 1, 0, 0));
-        refused("addLoad to station 2", Check.INDEX, r -> r.addLoad(0, 0, 2, 1, 0, 0));
-        refused("removeLoad of load 2", Check.INDEX, r -> r.removeLoad(2));
-        refused("setCount of load 2", Check.INDEX, r -> r.setCount(2, 0));
-        refused("close of lane 2", Check.INDEX, r -> r.close(2, true));
-        refused("printLane of lane 2", Check.INDEX, r -> r.printLane(2));
+        answers(0, use);
+        answers(size - 1, use);
     }
 
-    /** Each argument one too small and one too great. */
-    private static void arguments() {
-        Check.sentence(0, "A method that throws changes nothing");
-        for (int side = 0; side < 2; side++) {
-            boolean low = side == 0;
-            refused("count", Check.ARGUMENT, r -> r.count(low ? -1 : 14));
-            refused("setting", Check.ARGUMENT, r -> r.setting(low ? -1 : 6));
-            refused("cell", Check.ARGUMENT, r -> r.cell(0, low ? -1 : 9));
-            refused("layer", Check.ARGUMENT, r -> r.layer(0, 0, low ? -1 : 2));
-            refused("core", Check.ARGUMENT, r -> r.core(0, low ? -1 : 3));
-            refused("load", Check.ARGUMENT, r -> r.load(0, low ? -1 : 7));
-            refused("failing", Check.ARGUMENT, r -> r.failing(low ? 0 : 61));
-            refused("rutIn", Check.ARGUMENT, r -> r.rutIn(0, low ? 0 : 61));
-            refused("wornIn", Check.ARGUMENT, r -> r.wornIn(0, low ? 0 : 61));
-            refused("countIn", Check.ARGUMENT, r -> r.countIn(0, low ? 0 : 61));
-            refused("yearsWith", Check.ARGUMENT, r -> r.yearsWith(0, low ? -1 : 901));
-            refused("cheapest", Check.ARGUMENT, r -> r.cheapest(0, low ? 0 : 61));
-            refused("planCost", Check.ARGUMENT, r -> r.planCost(low ? 0 : 61));
-            refused("pass", Check.ARGUMENT, r -> r.pass(low ? 0 : 61));
-            refused("kind of a patch", Check.ARGUMENT, r -> r.patch(low ? 0 : 4, 0, 10));
-            refused("mm of a patch", Check.ARGUMENT, r -> r.patch(2, 0, low ? 9 : 101));
-            refused("kind of cost", Check.ARGUMENT, r -> r.cost(low ? 0 : 4, 0, 10));
-            refused("mm of cost", Check.ARGUMENT, r -> r.cost(2, 0, low ? 9 : 101));
-            refused("kind of whyNot", Check.ARGUMENT, r -> r.whyNot(low ? 0 : 4, 0, 10));
-            refused("mm of whyNot", Check.ARGUMENT, r -> r.whyNot(2, 0, low ? 9 : 101));
-            refused("kind of yearsBehind", Check.ARGUMENT, r -> r.yearsBehind(low ? 0 : 4, 0, 10));
-            refused("mm of yearsBehind", Check.ARGUMENT, r -> r.yearsBehind(2, 0, low ? 9 : 101));
-            refused("kind of drill", Check.ARGUMENT, r -> r.drill(2, low ? -1 : 4, 1));
-            refused("mm of drill", Check.ARGUMENT, r -> r.drill(2, 0, low ? 0 : 501));
-            refused("kind of addLayer", Check.ARGUMENT, r -> r.addLayer(0, low ? -1 : 4, 1));
-            refused("mm of addLayer", Check.ARGUMENT, r -> r.addLayer(0, 0, low ? 0 : 501));
-            refused("measure", Check.ARGUMENT, r -> r.measure(0, low ? -1 : 10000));
-            refused("weight", Check.ARGUMENT, r -> r.addLoad(0, 0, 1, low ? 0 : 31, 0, 0));
-            refused("count of addLoad", Check.ARGUMENT, r -> r.addLoad(0, 0, 1, 1, low ? -1 : 1000000, 0));
-            refused("growth", Check.ARGUMENT, r -> r.addLoad(0, 0, 1, 1, 0, low ? -1 : 21));
-            refused("setCount", Check.ARGUMENT, r -> r.setCount(0, low ? -1 : 1000000));
-            refused("give", Check.ARGUMENT, r -> r.give(low ? 0 : 1000000));
-            refused("what of set", Check.ARGUMENT, r -> r.set(low ? -1 : 6, 10));
+    /** Each number one too small, one too great and far off, and the least and the greatest one. */
+    private static void outOfRange(int promise, String words, int least, int greatest, Indexed use) {
+        Check.sentence(promise, "Throws `IllegalArgumentException` if " + words);
+        for (int bad : new int[] {least - 1, greatest + 1, Integer.MAX_VALUE, Integer.MIN_VALUE}) {
+            refused("the number " + bad, Check.ARGUMENT, r -> use.answer(r, bad));
         }
+        answers(least, use);
+        answers(greatest, use);
+    }
+
+    private static void answers(int number, Indexed use) {
+        String got = "an answer";
+        try {
+            use.answer(States.busy(), number);
+        } catch (RuntimeException e) {
+            got = e.getClass().getName();
+        }
+        Check.due("the number " + number, got, "an answer");
+    }
+
+    private static void indexesOfQuestions() {
+        noSuch(9, "cell", 4, (r, i) -> r.cell(i, 0));
+        noSuch(10, "cell", 4, (r, i) -> r.worn(i));
+        noSuch(11, "cell", 4, (r, i) -> r.capacity(i));
+        noSuch(12, "cell or layer", 4, (r, i) -> r.layer(i, 0, 0));
+        noSuch(12, "cell or layer", 2, (r, i) -> r.layer(0, i, 0));
+        noSuch(13, "core", 3, (r, i) -> r.core(i, 0));
+        noSuch(14, "load", 2, (r, i) -> r.load(i, 0));
+        noSuch(15, "cell", 4, (r, i) -> r.base(i));
+        noSuch(16, "load or cell", 2, (r, i) -> r.baseOf(i, 0));
+        noSuch(16, "load or cell", 4, (r, i) -> r.baseOf(0, i));
+        noSuch(17, "cell", 4, (r, i) -> r.heaviest(i));
+        noSuch(18, "cell", 4, (r, i) -> r.units(i));
+        noSuch(19, "cell", 4, (r, i) -> r.failsBy(i));
+        noSuch(20, "cell", 4, (r, i) -> r.yearsLeft(i));
+        noSuch(21, "index", 4, (r, i) -> r.nthCell(i));
+        noSuch(22, "lane", 2, (r, i) -> r.laneYears(i));
+        noSuch(23, "lane", 2, (r, i) -> r.firstFailing(i));
+        noSuch(25, "cell", 4, (r, i) -> r.rutIn(i, 1));
+        noSuch(26, "cell", 4, (r, i) -> r.wornIn(i, 1));
+        noSuch(27, "load", 2, (r, i) -> r.countIn(i, 1));
+        noSuch(28, "cell", 4, (r, i) -> r.yearsWith(i, 0));
+        noSuch(29, "lane", 2, (r, i) -> r.yearsIfClosed(i, 0));
+        noSuch(29, "lane", 2, (r, i) -> r.yearsIfClosed(0, i));
+        noSuch(32, "core", 3, (r, i) -> r.discardTells(i));
+        for (int kind = RoadWear.FILL; kind <= RoadWear.REBUILD; kind++) {
+            int patch = kind;
+            noSuch(34, "cell", 4, (r, i) -> r.cost(patch, i, 10));
+            noSuch(35, "cell", 4, (r, i) -> r.whyNot(patch, i, 10));
+            noSuch(36, "cell", 4, (r, i) -> r.yearsBehind(patch, i, 10));
+        }
+        noSuch(37, "cell", 4, (r, i) -> r.cheapest(i, 1));
+        noSuch(39, "lane", 2, (r, i) -> r.meanRut(i));
+        noSuch(40, "cell", 4, (r, i) -> r.wornShare(i));
+    }
+
+    private static void indexesOfChanges() {
+        // cells 0, 1 and 3 have a core, so that cell 2 alone may be drilled
+        Check.sentence(42, "Throws `IndexOutOfBoundsException` if there is no such cell");
+        for (int bad : new int[] {-1, 4, Integer.MAX_VALUE, Integer.MIN_VALUE}) {
+            refused("cell " + bad, Check.INDEX, r -> r.drill(bad, 0, 1));
+        }
+        noSuch(43, "core", 3, (r, i) -> r.addLayer(i, 0, 1));
+        noSuch(44, "core", 3, (r, i) -> r.discard(i));
+        noSuch(45, "cell", 4, (r, i) -> r.measure(i, 0));
+        noSuch(46, "lane or station", 2, (r, i) -> r.addLoad(i, 0, 0, 1, 0, 0));
+        noSuch(46, "lane or station", 2, (r, i) -> r.addLoad(0, i, 1, 1, 0, 0));
+        noSuch(46, "lane or station", 2, (r, i) -> r.addLoad(0, 0, i, 1, 0, 0));
+        noSuch(47, "load", 2, (r, i) -> r.removeLoad(i));
+        noSuch(48, "load", 2, (r, i) -> r.setCount(i, 0));
+        noSuch(49, "lane", 2, (r, i) -> r.close(i, true));
+        noSuch(50, "cell", 4, (r, i) -> r.patch(RoadWear.FILL, i, 0));
+        noSuch(50, "cell", 4, (r, i) -> r.patch(RoadWear.OVERLAY, i, 10));
+        noSuch(50, "cell", 4, (r, i) -> r.patch(RoadWear.REBUILD, i, 0));
+        noSuch(54, "cell", 4, (r, i) -> r.printCell(i));
+        noSuch(55, "lane", 2, (r, i) -> r.printLane(i));
+    }
+
+    private static void argumentsOfQuestions() {
+        outOfRange(7, "what is out of range", 0, 13, (r, n) -> r.count(n));
+        outOfRange(8, "what is out of range", 0, 5, (r, n) -> r.setting(n));
+        outOfRange(9, "what is out of range", 0, 8, (r, n) -> r.cell(3, n));
+        outOfRange(12, "what is out of range", 0, 1, (r, n) -> r.layer(3, 1, n));
+        outOfRange(13, "what is out of range", 0, 2, (r, n) -> r.core(2, n));
+        outOfRange(14, "what is out of range", 0, 6, (r, n) -> r.load(1, n));
+        outOfRange(24, "years is out of range", 1, 60, (r, n) -> r.failing(n));
+        outOfRange(25, "years is out of range", 1, 60, (r, n) -> r.rutIn(3, n));
+        outOfRange(26, "years is out of range", 1, 60, (r, n) -> r.wornIn(3, n));
+        outOfRange(27, "years is out of range", 1, 60, (r, n) -> r.countIn(1, n));
+        outOfRange(28, "percent is out of range", 0, 900, (r, n) -> r.yearsWith(3, n));
+        String patches = "kind is out of range, or mm of an overlay";
+        outOfRange(34, patches, 1, 3, (r, n) -> r.cost(n, 3, 10));
+        outOfRange(34, patches, 10, 100, (r, n) -> r.cost(RoadWear.OVERLAY, 3, n));
+        outOfRange(35, patches, 1, 3, (r, n) -> r.whyNot(n, 3, 10));
+        outOfRange(35, patches, 10, 100, (r, n) -> r.whyNot(RoadWear.OVERLAY, 3, n));
+        outOfRange(36, patches, 1, 3, (r, n) -> r.yearsBehind(n, 3, 10));
+        outOfRange(36, patches, 10, 100, (r, n) -> r.yearsBehind(RoadWear.OVERLAY, 3, n));
+        outOfRange(37, "years is out of range", 1, 60, (r, n) -> r.cheapest(3, n));
+        outOfRange(38, "years is out of range", 1, 60, (r, n) -> r.planCost(n));
+    }
+
+    private static void argumentsOfChanges() {
+        outOfRange(41, "years is out of range", 1, 60, (r, n) -> r.pass(n));
+        outOfRange(42, "kind or mm is out of range", 0, 3, (r, n) -> r.drill(2, n, 1));
+        outOfRange(42, "kind or mm is out of range", 1, 500, (r, n) -> r.drill(2, 0, n));
+        outOfRange(43, "kind or mm is out of range", 0, 3, (r, n) -> r.addLayer(2, n, 1));
+        outOfRange(43, "kind or mm is out of range", 1, 500, (r, n) -> r.addLayer(2, 0, n));
+        outOfRange(45, "rut is out of range", 0, 9999, (r, n) -> r.measure(3, n));
+        String loads = "last is less than first, or weight, count or growth is out of range";
+        outOfRange(46, loads, 1, 30, (r, n) -> r.addLoad(1, 0, 1, n, 0, 0));
+        outOfRange(46, loads, 0, 999999, (r, n) -> r.addLoad(1, 0, 1, 1, n, 0));
+        outOfRange(46, loads, 0, 20, (r, n) -> r.addLoad(1, 0, 1, 1, 0, n));
         refused("last less than first", Check.ARGUMENT, r -> r.addLoad(0, 1, 0, 1, 0, 0));
+        outOfRange(48, "count is out of range", 0, 999999, (r, n) -> r.setCount(1, n));
+        String patches = "kind is out of range, or mm of an overlay";
+        outOfRange(50, patches, 1, 3, (r, n) -> r.patch(n, 3, 10));
+        outOfRange(50, patches, 10, 100, (r, n) -> r.patch(RoadWear.OVERLAY, 3, n));
+        outOfRange(51, "what or value is out of range", 0, 5, (r, n) -> r.set(n, 10));
         int[][] ranges = {{1, 999}, {10, 999}, {1, 9999}, {0, 999}, {0, 999}, {0, 9999}};
         for (int index = 0; index < ranges.length; index++) {
             int what = index;
-            refused("set " + what, Check.ARGUMENT, r -> r.set(what, ranges[what][0] - 1));
-            refused("set " + what, Check.ARGUMENT, r -> r.set(what, ranges[what][1] + 1));
+            outOfRange(51, "what or value is out of range", ranges[what][0], ranges[what][1], (r, n) -> r.set(what, n));
         }
+        outOfRange(52, "money is out of range", 1, 999999, (r, n) -> r.give(n));
     }
 
     private static void states() {
         Check.sentence(0, "A method that throws changes nothing");
+        refused("an index", Check.INDEX, r -> r.measure(4, 0));
+        refused("an argument", Check.ARGUMENT, r -> r.measure(3, -1));
+        Check.sentence(31, "Throws `NoSuchElementException` if there are no cells");
+        refused("no weakest cell", Check.NOTHING, RoadWear::new, RoadWear::weakest);
+        Check.sentence(41, "Throws `IllegalStateException` if there are no cells, or the year would be greater than 500");
+        refused("no cells", Check.STATE, RoadWear::new, r -> r.pass(1));
         refused("a year too many", Check.STATE, States::old, r -> r.pass(1));
         refused("60 years too many", Check.STATE, States::old, r -> r.pass(60));
+        Check.sentence(42, "Throws `IllegalStateException` if there is a core at this cell, or there are 12");
         refused("a core twice", Check.STATE, r -> r.drill(0, 0, 1));
         refused("a 13th core", Check.STATE, States::full, r -> r.drill(15, 0, 1));
+        refused("a 13th core at the cell of another one", Check.STATE, States::full, r -> r.drill(11, 0, 1));
+        Check.sentence(43, "Throws `IllegalStateException` if it has 4 layers");
         refused("a fifth layer", Check.STATE, States::full, r -> r.addLayer(0, 0, 1));
+        Check.sentence(46, "Throws `IllegalStateException` if there are 10 loads");
         refused("an 11th load", Check.STATE, States::full, r -> r.addLoad(0, 0, 0, 1, 0, 0));
-        refused("nothing saved", Check.STATE, States::full, RoadWear::restoreState);
+        Check.sentence(53, "Throws `IllegalStateException` if there is none");
         refused("nothing to undo", Check.STATE, () -> Check.road("road 1 1;"), RoadWear::undo);
-        refused("no cells to pass", Check.STATE, RoadWear::new, r -> r.pass(1));
         refused("nothing to undo at first", Check.STATE, RoadWear::new, RoadWear::undo);
+        Check.sentence(59, "Throws `IllegalStateException` if no state is saved");
+        refused("nothing saved", Check.STATE, States::full, RoadWear::restoreState);
         refused("nothing saved at first", Check.STATE, RoadWear::new, RoadWear::restoreState);
-        refused("no weakest cell", Check.NOTHING, RoadWear::new, RoadWear::weakest);
     }
 
     private static void order() {
