@@ -443,6 +443,11 @@ public final class EdgeTermsTest {
         Check.due("a fill of 6", road.patch(RoadWear.FILL, 0, 0), 6);
         Check.due("all money is spent", road.count(6), 0);
         Check.due("the first reason of 1 and 3", overlaidRoad().whyNot(RoadWear.OVERLAY, 0, 11), 1);
+        RoadWear asNew = Check.road("road 1 1;build 5;money 9;");
+        Check.due("the first one", asNew.patch(RoadWear.REBUILD, 0, 0), 5);
+        Check.due("the first reason of 1 and 4", asNew.patch(RoadWear.REBUILD, 0, 0), -1);
+        asNew.give(1);
+        Check.due("with the money", asNew.patch(RoadWear.REBUILD, 0, 0), -4);
         is("2 a fill of a rut of 0");
         Check.due("a rut of 0", road.whyNot(RoadWear.FILL, 0, 0), 2);
         road.measure(0, 1);
@@ -767,6 +772,23 @@ public final class EdgeTermsTest {
     }
 
     private static void changes() {
+        is("Changes are the methods whose description says so");
+        RoadWear others = Check.road("road 2 1;core 0 0 sand 1;load 0 0 1 1 1;");
+        Check.append(others, "road 1 1");
+        others.truncateInput(2);
+        others.loadRoad();
+        others.printCell(0);
+        others.printLane(0);
+        others.printLoads();
+        others.saveState();
+        others.cheapest(0, 60);
+        others.safestClosing();
+        Check.due("these are none", others.count(13), 0);
+        others.give(1);
+        others.saveState();
+        Check.due("neither is a saved state", others.undo(), 0);
+        Check.due("it is not undone", others.restoreState(), 0);
+        Check.due("it was saved behind the change", others.count(6), 1001);
         is("if they succeed, also if nothing is different then");
         RoadWear same = Check.road("road 2 1;load 0 0 0 1 5;rut 0 0 7;");
         same.measure(0, 7);
